@@ -163,7 +163,7 @@ public final class TabooIsles {
         if (!isPayment(isle, sum, rules)) {
             return NONE;
         }
-        openPurse(isle, rules);
+        openPurse(isle, handMost, rules);
         return purse.rowPart(sum, i);
     }
 
@@ -171,7 +171,7 @@ public final class TabooIsles {
         if (!isPayment(isle, sum, rules) || parts < 1 || parts > WAYS_PARTS_MOST) {
             return NONE;
         }
-        openPurse(isle, rules);
+        openPurse(isle, handMost, rules);
         return purse.rows(sum, parts);
     }
 
@@ -179,7 +179,7 @@ public final class TabooIsles {
         if (!world.isIsle(isle) || !isRules(rules) || i < NONE) {
             return NONE;
         }
-        openPurse(isle, rules);
+        openPurse(isle, handMost, rules);
         purse.countForward();
         return i == NONE ? purse.unpaid() : purse.unpaidAt(i);
     }
@@ -408,7 +408,7 @@ public final class TabooIsles {
         if (!isPayment(isle, sum, rules)) {
             return NONE;
         }
-        openPurse(isle, rules);
+        openPurse(isle, handMost, rules);
         purse.countForward();
         for (int off = 0; off < SUM_MOST; off++) {
             if (purse.isPaid(sum - off)) {
@@ -425,7 +425,7 @@ public final class TabooIsles {
         if (!isPayment(one, sum, rules) || !world.isIsle(other) || one == other) {
             return NONE;
         }
-        openPurse(one, rules);
+        openPurse(one, handMost, rules);
         world.barAlso(purse.barred, other);
         return purse.rowPart(sum, NONE);
     }
@@ -583,15 +583,14 @@ public final class TabooIsles {
         return world.isIsle(isle) && m >= 0 && m <= SUM_MOST && !world.forbidsNow(isle, m);
     }
 
-    private void openPurse(int isle, int rules) {
-        purse.open(handMost, rules);
+    private void openPurse(int isle, int handNow, int rules) {
+        purse.open(handNow, rules);
         world.bar(purse.barred, isle, world.log.now, world.tabooOn(isle, world.log.now));
     }
 
-    // GROUPS are PARTS of any size of which the greatest row is the one with the greater ones first
+    // GROUPS are PARTS of any size; the greatest row of them is the one with the greater ones first
     private void openFamily(int isle) {
-        openPurse(isle, RULE_PARTS + RULE_COUNT);
-        purse.open(FAMILY_MOST, RULE_PARTS + RULE_COUNT);
+        openPurse(isle, FAMILY_MOST, RULE_PARTS | RULE_COUNT);
     }
 
     private int forbiddenBehind(int isle, int m) {
@@ -1536,6 +1535,7 @@ public final class TabooIsles {
         private final int[] route;
         private int hold;
         private int legs;
+        private int legMost;
         private int bestMoney;
 
         Trader(World isles, Purse coins) {
@@ -1563,7 +1563,7 @@ public final class TabooIsles {
 
         /** A bit for each of the GOODS and each quantity that may be bought and sold there then. */
         int lawfulDeals(int isle, int day, int handMost) {
-            purse.open(handMost, RULE_PARTS + RULE_TOTALS);
+            purse.open(handMost, RULE_PARTS | RULE_TOTALS);
             world.bar(purse.barred, isle, day, world.tabooOn(isle, day));
             purse.reachAll();
             int bits = 0;
@@ -1602,6 +1602,7 @@ public final class TabooIsles {
             hold = holdMost;
             legs = legsMany;
             bestMoney = NONE;
+            legMost = hold * widestSpread();
             land(0, isle, 0, money, NONE, 0);
             return bestMoney;
         }
@@ -1637,6 +1638,10 @@ public final class TabooIsles {
         }
 
         private void trade(int leg, int isle, int daysOn, int money, int may) {
+            // a sale takes a LEG at least: what can't bring more MONEY than the best needn't be tried
+            if (money + (legs - leg) * legMost <= bestMoney) {
+                return;
+            }
             buyNothing(leg);
             leave(leg, isle, daysOn, money, NONE, 0);
             for (int good = 0; good < goods; good++) {
@@ -1664,6 +1669,20 @@ public final class TabooIsles {
         private void buyNothing(int leg) {
             route[3 * leg] = NONE;
             route[3 * leg + 1] = 0;
+        }
+
+        private int widestSpread() {
+            int widest = 0;
+            for (int good = 0; good < goods; good++) {
+                int least = PRICE_MOST;
+                int most = 0;
+                for (int isle = 0; isle < world.chart.isles; isle++) {
+                    least = Math.min(least, prices[good][isle]);
+                    most = Math.max(most, prices[good][isle]);
+                }
+                widest = Math.max(widest, most - least);
+            }
+            return widest;
         }
 
         private int lawfulAt(int isle, int daysOn) {

@@ -110,6 +110,11 @@ public final class PromisesTest {
             due("feed " + k, 20 * k, x.feed(0x20202020, 0x20202020, 0x20202020, 0x20202020, 0x20202020));
         }
         due("one too many", -1, x.feed(0, 0, 0, 0, 1));
+        due("one too many", -1, x.feed(1, 0, 0, 0, 0));
+        due("one too many", -1, x.feed(0, 0x100, 0, 0, 0));
+        due("one too many", -1, x.feed(0, 0, 0x10000, 0, 0));
+        due("one too many", -1, x.feed(0, 0, 0, 0x1000000, 0));
+        due("two too many", -1, x.feed(1, 0, 0, 0x1000000, 0));
         due("none more", 160, x.feed(0, 0, 0, 0, 0));
         due("as it was", 160, x.count(2));
         due("blanks alone", 160, x.fault(0));
@@ -145,8 +150,9 @@ public final class PromisesTest {
         }
         String[] faulty = {"", "x", ",", "1", "100,2;ab1", "1 2,3", "1;ab1", "1,2,3,4,5,6,7", "1,,", "1,2;", "1,2;ab0",
             "1,2;ab10", "1,2;ab", "1,2;ac1", "1,2;ca1", "1,2;aa1", "1,2;ab1,ab1", "1,2;ab1,ba1", "1,2;ab1;", "1,2;AB1",
-            "1,2;ab1,", "1,-2", "1,2:ab1", "1,2,", "1,2; b1", "\u00ff1,2;ab1"};
-        int[] at = {0, 0, 0, 1, 2, 2, 1, 11, 2, 4, 6, 7, 6, 5, 4, 5, 9, 9, 7, 4, 8, 2, 3, 4, 6, 0};
+            "1,2;ab1,", "1,-2", "1,2:ab1", "1,2,", "1,2; b1", "\u00ff1,2;ab1", "1,2;a", "1,2;ab",
+            "1,2;a1", "1,2;aB", "1,2;abx", "1,x", "1;", ";", "1,2,3,4,5,6,", "1,2,3,4,5,6", "1,2 ab1"};
+        int[] at = {0, 0, 0, 1, 2, 2, 1, 11, 2, 4, 6, 7, 6, 5, 4, 5, 9, 9, 7, 4, 8, 2, 3, 4, 6, 0, 5, 6, 5, 5, 6, 2, 1, 0, 11, 11, 4};
         for (int k = 0; k < faulty.length; k++) {
             fault(0, faulty[k], at[k]);
         }
@@ -159,7 +165,8 @@ public final class PromisesTest {
     private static void faultOfCustoms() {
         String[] sound = {"y:1", "y:n", " y : 1 ", "y:9999", "y:n=1?1", "y:!n=1?1", "y:(n=1)?1", "y:((n=1|t<2)&s>3)?l-i*d/2",
             "y:[1]", "y:[1]=2?3", "y:1;y:2;y:3", "y:[[[[[[1]]]]]]", "y:!!!!!!n=1?1", "y:!(!(!(1=1)))?1",
-            "y:!!!!!n=[1]?1", "y:!!!!!!n=1&!!!!!!n=2?1", "y:n=1?[[[[[[1]]]]]]", "y:1+2-3*4/5", "y:n+1=2|n=3?1"};
+            "y:!!!!!n=[1]?1", "y:!!!!!!n=1&!!!!!!n=2?1", "y:n=1?[[[[[[1]]]]]]", "y:1+2-3*4/5", "y:n+1=2|n=3?1", "y:n=[[[[[[1]]]]]]?1", "y:n=1|[[[[[[1]]]]]]=1?1",
+            "y:n=1&((((((n=1))))))?[[[[[[1]]]]]]"};
         for (String text : sound) {
             fault(1, text, -1);
         }
@@ -167,9 +174,10 @@ public final class PromisesTest {
             "y:(n=1", "y:[1", "y:[n=1]", "y:[(n", "y:n=1?1?1", "y:n=1?1=1", "y:1;", "y:1;n", "y:-1", "y:+", "y:1+",
             "y:[[[[[[[1]]]]]]]", "y:!!!!!!!n=1?1", "y:!!!!!!n=[1]?1", "y:((((((n=1))))))?1", "y:(((((((n=1)))))))?1",
             "y:!n?1", "y:(n=1)+1?1", "y:(n=1)=1?1", "y:1)", "y:1]", "y:n=1|2?1", "y:n=1&|", "y:nn", "y:1n", "y:N", "y:n==1",
-            "y:(n=1)", "y:!n=1;", "y:[1]]", "y:n=(1)"};
+            "y:(n=1)", "y:!n=1;", "y:[1]]", "y:n=(1)", "y:n=", "y:n=1|", "y:n=1&", "y:(n=", "y:1*", "y:1/?",
+            "y:n=1?", "y:n=1?*", "y:!", "y:(", "y:[", "y:n=1|(n=2", "y:n<", "y:n=1?n>", "y:1;y", "y:1;;"};
         int[] at = {0, 0, 1, 1, 2, 6, 4, 5, 6, 3, 5, 4, 6, 4, 4, 3, 7, 7, 4, 4, 2, 2, 4, 8, 8, 10, -1, 8, 4, 7, 7, 3, 3,
-            7, 6, 3, 3, 2, 4, 7, 6, 5, 4};
+            7, 6, 3, 3, 2, 4, 7, 6, 5, 4, 4, 6, 6, 5, 4, 4, 6, 6, 3, 3, 3, 10, 4, 7, 5, 4};
         for (int k = 0; k < faulty.length; k++) {
             fault(1, faulty[k], at[k]);
         }
@@ -250,6 +258,8 @@ public final class PromisesTest {
         due("back", 3, x.way(1, 0));
         due("none", -1, x.way(0, 2));
         due("itself", -1, x.way(1, 1));
+        due("one day", 1, Check.isles("1,2;ab1").way(1, 0));
+        due("nine days", 9, Check.isles("1,2;ab9").way(1, 0));
         due("no isle", -1, x.way(0, 3));
         due("no isle", -1, x.way(-1, 0));
         due("no isle", -1, x.way(LEAST, MOST));
@@ -312,12 +322,22 @@ public final class PromisesTest {
         worth("y:9999*9999-1000*999-1000", 1, false);
         worth("y:[0-9999]*9999+1000*1000+1", 1, true);
         worth("y:1000*1000+1-1000*1000", 1, false);
+        worth("y:1000*1000-999*1001", 1, true);
+        worth("y:[0-1000]*1000+999*1001+1", 1, false);
+        worth("y:[0-1000]*1000+999*1001+2", 1, true);
+        worth("y:[0-1000]*1000-1+999*1001+2", 1, true);
         worth("y:t=10&i=3&d=42&s=15&l=8&n=258?1", 258, true);
         worth("y:n=1|n=2&n=3?1", 1, true);
         worth("y:(n=1|n=2)&n=3?1", 1, false);
         worth("y:!n=1&n=2?1", 2, true);
         worth("y:!n=1|n=1?1", 1, true);
         worth("y:!!n=1?1", 1, true);
+        worth("y:!!n=1?1", 2, false);
+        worth("y:!n=1?1", 1, false);
+        worth("y:!!!n=1?1", 1, false);
+        worth("y:!(n=1)&!(n=2)?1", 2, false);
+        worth("y:n=1|n=1?[n-1]", 1, false);
+        worth("y:n=1|n=1?[n-0]", 1, true);
         worth("y:!(n=1&n=2)?1", 1, true);
         worth("y:n=1?0;y:1", 1, false);
         worth("y:n=1?0;y:1", 2, true);
@@ -396,6 +416,11 @@ public final class PromisesTest {
     private static void ways() {
         TabooIsles x = Check.isles(THREE);
         due("3 in 2", 2, x.ways(2, 3, 0, 2));
+        due("5 in 1", 1, x.ways(2, 5, 0, 1));
+        due("10 in 1", 0, x.ways(2, 10, 0, 1));
+        due("1 in 1", 1, x.ways(2, 1, 7, 1));
+        due("200 in 8", 0, x.ways(2, 200, 0, 8));
+        due("sum 0", -1, x.ways(2, 0, 0, 1));
         due("10 in 2", 9, x.ways(2, 10, 0, 2));
         due("11 in 2", 8, x.ways(2, 11, 0, 2));
         due("not 4", 8 - 2, x.ways(1, 11, 1, 2));
@@ -427,6 +452,10 @@ public final class PromisesTest {
         due("no such isle", -1, x.cant(3, 0, -1));
         x.hand(1);
         due("by ones", 140, x.cant(0, 0, -1));
+        x.hand(9);
+        Check.customs(x, 0, "y:n<9?1");
+        due("nine parts and more", 8, x.cant(0, 4, -1));
+        due("1 is the first", 1, x.cant(0, 4, 0));
     }
 
     // 14
@@ -613,6 +642,9 @@ public final class PromisesTest {
         x.hand(9);
         Check.customs(x, 1, "y:n<10?1");
         due("no parts", 0, x.deal(0, 1, 1, 0));
+        x.price(0, 0, 10);
+        due("6 for 60", 1, x.deal(0, 0, 6, 0));
+        due("day 99", 1, x.deal(0, 0, 6, 99));
         due("no good", -1, x.deal(1, 0, 1, 0));
         due("no good", -1, x.deal(-1, 0, 1, 0));
         due("no isle", -1, x.deal(0, 3, 1, 0));
@@ -647,6 +679,13 @@ public final class PromisesTest {
         due("no step 6", -1000000, x.gain(0, 5, 2, 2, 6));
         due("no step -2", -1000000, x.gain(0, 5, 2, 2, -2));
         due("no legs", 0, x.gain(0, 5, 2, 0, -1));
+        due("a hold of 6", 18, x.gain(0, 999, 6, 1, -1));
+        due("three legs", 6 + 8 + 6, x.gain(0, 999, 2, 3, -1));
+        // a b c b brings as much: it has the higher ISLE where they first differ
+        int[] lower = {0, 2, 1, 1, 2, 0, 0, 2, 1};
+        for (int k = 0; k < 9; k++) {
+            due("three legs, step " + k, lower[k], x.gain(0, 999, 2, 3, k));
+        }
         due("no legs, no step", -1000000, x.gain(0, 5, 2, 0, 0));
         due("can't go", -1000000, x.gain(3, 5, 2, 1, -1));
         due("needn't go", 0, x.gain(3, 5, 2, 0, -1));
@@ -702,7 +741,7 @@ public final class PromisesTest {
     // 26
     private static void change() {
         TabooIsles x = Check.isles(THREE);
-        for (int k = 1; k <= 19; k++) {
+        for (int k = 1; k <= 18; k++) {
             due("change " + k, k, x.change(0, 99, k));
         }
         due("taboo 100", -1, x.change(0, 0, 100));
@@ -710,10 +749,12 @@ public final class PromisesTest {
         due("day 100", -1, x.change(0, 100, 1));
         due("day -1", -1, x.change(0, -1, 1));
         due("no isle", -1, x.change(3, 0, 1));
+        x.change(1, 0, 99);
+        due("taboo 99", 99, x.taboo(1, 0));
         due("to none", 20, x.change(0, 0, 0));
         due("no more", -1, x.change(0, 0, 1));
         due("none", 0, x.taboo(0, 98));
-        due("the last told", 19, x.taboo(0, 99));
+        due("the last told", 18, x.taboo(0, 99));
     }
 
     // 27
@@ -834,6 +875,7 @@ public final class PromisesTest {
         due("the goal is taboo", 0, x.game(0, 1, 7, 6, 0));
         due("from the taboo", 1, x.game(0, 1, 8, 7, 0));
         due("200", 2, x.game(2, 9, 192, 0, 1));
+        due("goal 1", 1, x.game(2, 1, 1, 0, 1));
         due("goal 200", 0, x.game(2, 9, 200, 0, 0));
         due("reach 0", -1000000, x.game(2, 0, 9, 0, 0));
         due("reach 10", -1000000, x.game(2, 10, 9, 0, 0));
@@ -900,7 +942,13 @@ public final class PromisesTest {
     }
 
     private static int near12() {
-        TabooIsles x = Check.isles("2,1;ab1");
+        TabooIsles x = Check.customs(Check.isles("0,0,0;ab1"), 0, "y:n>1?1");
+        due("199 down", 1, x.near(0, 200, 2));
+        Check.customs(x, 1, "y:n<11?1");
+        x.hand(20);
+        // the first part is 11 at least, and there are 11 at least
+        due("20 up", 21, x.near(1, 1, 6));
+        x = Check.isles("2,1;ab1");
         due("up from 1", 2, x.near(1, 1, 2));
         return x.near(0, 2, 2);
     }
@@ -935,6 +983,9 @@ public final class PromisesTest {
         due("the custom by the taboo", 13, x.worst(2, 2, 0));
         due("195", 195, x.worst(2, 2, 1));
         due("as it was", 0, x.taboo(2, 0));
+        Check.customs(x, 1, "y:t=30?1");
+        due("the last taboo", 30, x.worst(1, 3, 0));
+        due("all sums", 200, x.worst(1, 3, 1));
         due("what 2", -1, x.worst(2, 2, 2));
         due("what -1", -1, x.worst(2, 2, -1));
         due("rules 8", -1, x.worst(2, 8, 0));
@@ -945,6 +996,10 @@ public final class PromisesTest {
     private static void owes() {
         TabooIsles x = Check.isles("7,4,7;ab1");
         due("nobody", -1, x.owes());
+        x.change(1, 0, 1);
+        x.say(1, 1);
+        due("1 is owed", 1, x.owes());
+        x = Check.isles("7,4,7;ab1");
         x.say(2, 7);
         due("c", 2, x.owes());
         x.say(0, 7);
@@ -987,6 +1042,7 @@ public final class PromisesTest {
         due("the first", 1, x.twins(0, 2, 0));
         due("six", 6, x.twins(0, 2, 8));
         due("either way", 6, x.twins(2, 0, 8));
+        due("60", true, x.twins(2, 0, 60) >= 6);
         due("alike", -1, x.twins(1, 1, 3));
         due("no isle", -1, x.twins(0, 3, 3));
         due("k 61", -1, x.twins(0, 1, 61));
