@@ -1314,7 +1314,6 @@ public final class TabooIsles {
         final boolean[] barred;
         private final long[] counts;
         private final long[] ways;
-        private final boolean[] reached;
         private final int[][] splits;
         private int hand;
         private int rules;
@@ -1323,7 +1322,6 @@ public final class TabooIsles {
             barred = new boolean[SUM_MOST + 1];
             counts = new long[SUM_MOST + 1];
             ways = new long[SUM_MOST + 1];
-            reached = new boolean[SUM_MOST + 1];
             splits = new int[FAMILY_MOST + 1][FAMILY_MOST + 1];
         }
 
@@ -1432,18 +1430,6 @@ public final class TabooIsles {
             return all;
         }
 
-        /** Marks the sums that are paid in any number of PARTS, beyond PARTS_MOST too. */
-        void reachAll() {
-            reached[0] = true;
-            for (int total = 1; total <= SUM_MOST; total++) {
-                reached[total] = isTotal(total) && isReachedBefore(total);
-            }
-        }
-
-        boolean isReached(int sum) {
-            return sum >= 1 && sum <= SUM_MOST && reached[sum];
-        }
-
         boolean isBarred(int number) {
             return number >= 0 && number <= SUM_MOST && barred[number];
         }
@@ -1509,15 +1495,6 @@ public final class TabooIsles {
                 }
             }
         }
-
-        private boolean isReachedBefore(int total) {
-            for (int part = 1; part <= hand && part <= total; part++) {
-                if (isPart(part) && reached[total - part]) {
-                    return true;
-                }
-            }
-            return false;
-        }
     }
 
     /** GOODS and their PRICES, and the best voyage with them. */
@@ -1563,13 +1540,14 @@ public final class TabooIsles {
 
         /** A bit for each of the GOODS and each quantity that may be bought and sold there then. */
         int lawfulDeals(int isle, int day, int handMost) {
+            // "in any number of PARTS": without RULE_COUNT; no row is longer than PARTS_MOST all the same
             purse.open(handMost, RULE_PARTS | RULE_TOTALS);
             world.bar(purse.barred, isle, day, world.tabooOn(isle, day));
-            purse.reachAll();
+            purse.countForward();
             int bits = 0;
             for (int good = 0; good < goods; good++) {
                 for (int q = 1; q <= HOLD_MOST; q++) {
-                    if (!purse.isBarred(q) && purse.isReached(q * prices[good][isle])) {
+                    if (!purse.isBarred(q) && purse.isPaid(q * prices[good][isle])) {
                         bits |= dealBit(good, q);
                     }
                 }

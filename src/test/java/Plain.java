@@ -693,15 +693,23 @@ final class Plain {
         if (sum > 200 || no(isle, q, day) || no(isle, sum, day)) {
             return 0;
         }
-        Set<Integer> seen = new HashSet<>(List.of(0));
-        for (int total = 0; total < sum; total++) {
-            for (int part = 1; part <= hand && seen.contains(total); part++) {
-                if (!no(isle, part, day) && total + part <= sum && !no(isle, total + part, day)) {
-                    seen.add(total + part);
+        // rules 3 bar no number of PARTS, but a row of more than 60 is none
+        Set<Integer> ends = new HashSet<>(List.of(0));
+        for (int parts = 1; parts <= 60; parts++) {
+            Set<Integer> next = new HashSet<>();
+            for (int total : ends) {
+                for (int part = 1; part <= hand && total + part <= sum; part++) {
+                    if (!no(isle, part, day) && !no(isle, total + part, day)) {
+                        next.add(total + part);
+                    }
                 }
             }
+            if (next.contains(sum)) {
+                return 1;
+            }
+            ends = next;
         }
-        return seen.contains(sum) ? 1 : 0;
+        return 0;
     }
 
     /** All voyages: money at the end, then the route. */

@@ -51,8 +51,10 @@ public final class PromisesTest {
         weightAndLikely();
         goodAndPrice();
         deal();
+        dealRows();
         gain();
         gainStuck();
+        gainLongRows();
     }
 
     private static void promises25to33() {
@@ -635,7 +637,7 @@ public final class PromisesTest {
         due("4 on that day", 0, x.deal(0, 2, 4, 7));
         due("4 on the day ahead", 1, x.deal(0, 2, 4, 6));
         x.hand(1);
-        due("in any number of parts", 1, x.deal(0, 2, 4, 6));
+        due("200 ones are no row", 0, x.deal(0, 2, 4, 6));
         due("no total 4", 0, x.deal(0, 2, 1, 7));
         x.hand(2);
         due("over the total 4", 1, x.deal(0, 2, 1, 7));
@@ -652,6 +654,35 @@ public final class PromisesTest {
         due("q 7", -1, x.deal(0, 0, 7, 0));
         due("day 100", -1, x.deal(0, 0, 1, 100));
         due("day -1", -1, x.deal(0, 0, 1, -1));
+    }
+
+    private static void dealRows() {
+        TabooIsles x = Check.isles("0,0,0;ab1");
+        x.good();
+        int[] hands = {1, 1, 2, 2, 3, 3, 3, 4, 1, 1};
+        int[] prices = {60, 61, 40, 61, 90, 91, 99, 50, 20, 21};
+        int[] many = {1, 1, 3, 2, 2, 2, 2, 4, 3, 3};
+        // 120 in sixty of 2, 122 in no sixty; 180 in sixty of 3, 182 in no sixty
+        int[] want = {1, 0, 1, 0, 1, 0, 0, 1, 1, 0};
+        for (int k = 0; k < hands.length; k++) {
+            x.hand(hands[k]);
+            x.price(0, 0, prices[k]);
+            due(many[k] + " at " + prices[k] + ", hand " + hands[k], want[k], x.deal(0, 0, many[k], 0));
+        }
+        x.hand(20);
+        x.price(0, 1, 22);
+        Check.customs(x, 1, "y:n>1&n<12?1");
+        due("by rules 7 no row", -1, x.pay(1, 22, 7, -1));
+        due("by rules 3 in any number of parts", 1, x.deal(0, 1, 1, 0));
+        x = Check.isles("3,0;ab1");
+        x.good();
+        x.hand(3);
+        x.price(0, 0, 60);
+        due("120 in sixty of 2, without 3", 1, x.deal(0, 0, 2, 0));
+        x.price(0, 0, 61);
+        due("122 in more, without 3", 0, x.deal(0, 0, 2, 0));
+        x.change(0, 8, 0);
+        due("122 with 3 again", 1, x.deal(0, 0, 2, 8));
     }
 
     // 24
@@ -721,6 +752,27 @@ public final class PromisesTest {
         x.change(2, 99, 2);
         due("behind 99 it is 99", 49, x.gain(0, 2, 2, 2, -1));
         due("nothing is better than a loss", 0, x.gain(2, 99, 2, 1, -1));
+    }
+
+    private static void gainLongRows() {
+        TabooIsles x = Check.isles("0,0,0;ab1,bc1");
+        x.good();
+        x.hand(1);
+        x.price(0, 0, 61);
+        x.price(0, 1, 60);
+        x.price(0, 2, 62);
+        due("can't be bought for 61", 0, x.gain(0, 99, 1, 2, -1));
+        due("nothing is bought", -1, x.gain(0, 99, 1, 2, 0));
+        x.price(0, 0, 50);
+        due("sold for 60", 10, x.gain(0, 99, 1, 1, -1));
+        x.price(0, 1, 61);
+        due("can't be sold for 61", 0, x.gain(0, 99, 1, 1, -1));
+        due("nor for 62", 0, x.gain(0, 99, 1, 2, -1));
+        x.hand(2);
+        due("61 in 31 parts", 11, x.gain(0, 99, 1, 1, -1));
+        due("62 on the way", 12, x.gain(0, 99, 1, 2, -1));
+        x.price(0, 0, 10);
+        due("122 can't be had, 61 can", 51, x.gain(0, 20, 2, 1, -1));
     }
 
     // 25
