@@ -712,11 +712,17 @@ final class Plain {
         return 0;
     }
 
+    final Map<String, Integer> dealt = new HashMap<>();
+
+    int dealOnVoyage(int good, int isle, int q, int day) {
+        return dealt.computeIfAbsent(good + " " + isle + " " + q + " " + day, k -> deal(good, isle, q, day));
+    }
+
     /** All voyages: money at the end, then the route. */
     void voyages(int isle, int day, int money, int good, int q, int hold, int legs, List<Integer> route,
             List<List<Integer>> all) {
         int asked = Math.min(day, 99);
-        if (q > 0 && deal(good, isle, q, asked) == 1) {
+        if (q > 0 && dealOnVoyage(good, isle, q, asked) == 1) {
             money += q * prices.get(good)[isle];
             q = 0;
         }
@@ -737,7 +743,7 @@ final class Plain {
             for (int g = 0; g < prices.size() && q == 0; g++) {
                 for (int many = 1; many <= hold; many++) {
                     int cost = many * prices.get(g)[isle];
-                    if (cost <= money && deal(g, isle, many, asked) == 1) {
+                    if (cost <= money && dealOnVoyage(g, isle, many, asked) == 1) {
                         next = new ArrayList<>(route);
                         next.addAll(List.of(g, many, to));
                         voyages(to, day + days, money - cost, g, many, hold, legs - 1, next, all);
@@ -752,6 +758,7 @@ final class Plain {
             return HIDDEN;
         }
         List<List<Integer>> all = new ArrayList<>();
+        dealt.clear();
         voyages(isle, today, money, NONE, 0, hold, legs, new ArrayList<>(), all);
         List<Integer> best = null;
         for (List<Integer> one : all) {

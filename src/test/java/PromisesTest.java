@@ -54,6 +54,7 @@ public final class PromisesTest {
         dealRows();
         gain();
         gainStuck();
+        gainMeetings();
         gainLongRows();
     }
 
@@ -582,6 +583,10 @@ public final class PromisesTest {
         due("weight of 99", true, x.weight(99, 98));
         due("1 above", 10000, x.likely(2, 98, 1));
         due("99", 980000, x.likely(2, 98, 0));
+        due("weight of 1", true, x.weight(1, 3));
+        Check.customs(x, 1, "y:n<3?1");
+        due("1, of 1 and 2", 750000, x.likely(1, 0, 0));
+        due("2, of 1 and 2", 250000, x.likely(1, 0, 1));
         due("weight of 100", false, x.weight(100, 1));
         due("weight of 0", false, x.weight(0, 1));
         due("weight 100", false, x.weight(1, 100));
@@ -752,6 +757,18 @@ public final class PromisesTest {
         x.change(2, 99, 2);
         due("behind 99 it is 99", 49, x.gain(0, 2, 2, 2, -1));
         due("nothing is better than a loss", 0, x.gain(2, 99, 2, 1, -1));
+    }
+
+    private static void gainMeetings() {
+        // e on day 5 by two legs over d, by three over b and c: two leave one more, to f
+        TabooIsles x = Check.isles("0,0,0,0,0,0;ab1,bc1,ce3,ad3,de2,ef1");
+        x.good();
+        x.price(0, 5, 99);
+        due("sold on f", 89, x.gain(0, 10, 1, 3, -1));
+        int[] route = {-1, 0, 3, -1, 0, 4, 0, 1, 5};
+        for (int k = 0; k < 9; k++) {
+            due("meeting step " + k, route[k], x.gain(0, 10, 1, 3, k));
+        }
     }
 
     private static void gainLongRows() {
@@ -1038,6 +1055,9 @@ public final class PromisesTest {
         Check.customs(x, 1, "y:t=30?1");
         due("the last taboo", 30, x.worst(1, 3, 0));
         due("all sums", 200, x.worst(1, 3, 1));
+        Check.customs(x, 0, "y:t=31?1");
+        due("31 is none of them", 1, x.worst(0, 2, 0));
+        due("the taboo alone", 1, x.worst(0, 2, 1));
         due("what 2", -1, x.worst(2, 2, 2));
         due("what -1", -1, x.worst(2, 2, -1));
         due("rules 8", -1, x.worst(2, 8, 0));

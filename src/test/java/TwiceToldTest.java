@@ -22,24 +22,59 @@ public final class TwiceToldTest {
     public static void main(String[] args) {
         check = new Check();
         for (int seed = 0; seed < 120 && check.wrong() < 10; seed++) {
-            random = new Random(seed);
-            told = new TabooIsles();
-            plain = new Plain();
+            begin(seed, "");
             for (int k = 0; k < 300 && check.wrong() < 10; k++) {
                 run = "seed " + seed + " call " + k + " ";
                 call(random.nextInt(47));
             }
         }
+        for (int seed = 0; seed < 300 && check.wrong() < 10; seed++) {
+            begin(seed, "voyage " + seed + " ");
+            voyages();
+        }
         for (int seed = 0; seed < 40000 && check.wrong() < 10; seed++) {
-            random = new Random(seed);
-            told = new TabooIsles();
-            plain = new Plain();
-            run = "text " + seed + " ";
+            begin(seed, "text " + seed + " ");
             tell(text());
             fault(0);
             fault(1);
         }
         check.finish("TwiceToldTest");
+    }
+
+    private static void begin(int seed, String name) {
+        random = new Random(seed);
+        told = new TabooIsles();
+        plain = new Plain();
+        run = name;
+    }
+
+    /** Three legs, where a good voyage is found early and a better one late, or PARTS are small. */
+    private static void voyages() {
+        tell(random.nextBoolean() ? "0,2,5;ab1,bc2,ac4" : "1,0,61,3;ab1,bc1,cd1,ad3,bd2");
+        due("text isles", plain.text(0), told.text(0));
+        int hand = random.nextBoolean() ? 9 : 1 + random.nextInt(3);
+        due("hand", plain.hand(hand) ? 1 : 0, told.hand(hand) ? 1 : 0);
+        int goods = 1 + random.nextInt(3);
+        for (int good = 0; good < goods; good++) {
+            due("good", plain.good(), told.good());
+        }
+        int most = random.nextBoolean() ? 99 : 12;
+        for (int good = 0; good < plain.prices.size(); good++) {
+            for (int isle = 0; isle < plain.isles; isle++) {
+                int v = 1 + random.nextInt(most);
+                due("price", plain.price(good, isle, v) ? 1 : 0, told.price(good, isle, v) ? 1 : 0);
+                int q = 1 + random.nextInt(6);
+                due("deal", plain.deal(good, isle, q, 0), told.deal(good, isle, q, 0));
+            }
+        }
+        int money = random.nextInt(200);
+        int hold = 1 + random.nextInt(2);
+        for (int isle = 0; isle < plain.isles; isle++) {
+            int step = random.nextInt(9);
+            String of = "gain " + isle + " " + money + " " + hold + " ";
+            due(of, plain.gain(isle, money, hold, 3, -1), told.gain(isle, money, hold, 3, -1));
+            due(of + step, plain.gain(isle, money, hold, 3, step), told.gain(isle, money, hold, 3, step));
+        }
     }
 
     private static int some(int least, int most) {
