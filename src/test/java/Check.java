@@ -3,11 +3,17 @@ import java.util.NoSuchElementException;
 /** What the tests share: answers compared, and texts told in feeds of twenty bytes. */
 final class Check {
     private int wrong;
+    private String test = "";
+
+    /** From here on what is wrong is told under this name. */
+    void begin(String name) {
+        test = name + ": ";
+    }
 
     void due(String call, long want, long got) {
         if (got != want) {
             wrong++;
-            System.out.println(call + " answered " + got + ", due is " + want);
+            System.out.println(test + call + " answered " + got + ", due is " + want);
         }
     }
 
@@ -46,6 +52,11 @@ final class Check {
     /** The tape is this text alone. */
     static TabooIsles tape(TabooIsles isles, String text) {
         isles.end(0);
+        return more(isles, text);
+    }
+
+    /** This text comes to the tape. */
+    static TabooIsles more(TabooIsles isles, String text) {
         for (int from = 0; from < text.length(); from += 20) {
             int[] w = words(text, from);
             isles.feed(w[0], w[1], w[2], w[3], w[4]);
