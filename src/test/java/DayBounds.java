@@ -53,6 +53,42 @@ final class DayBounds extends Bounds {
         due("0: 5", 4, x.spoken(0, 5));
     }
 
+    /** By a CUSTOM of c 7 is forbidden on day 50 alone. */
+    private static void sevenOnDay50(int today, boolean forbidden) {
+        TabooIsles x = withCustom("y:d=50&n=7?1");
+        x.today(today);
+        String of = " on day " + today;
+        due("pay" + of, forbidden ? 2 : 1, x.pay(2, 7, 1, -1));
+        due("ways" + of, forbidden ? 0 : 1, x.ways(2, 7, 2, 1));
+        due("cant" + of, forbidden ? 1 : 0, x.cant(2, 2, -1));
+        due("family" + of, forbidden ? 2 : 1, x.family(2, 7, -1));
+        due("splits" + of, forbidden ? 13 : 15, x.splits(2, 7));
+        due("date" + of, forbidden ? 29 : 30, x.date(2, -1));
+        due("debt" + of, forbidden ? 8 : 7, x.debt(2, 7, 0));
+        due("bit" + of, forbidden ? 1 : 0, x.bit(2, 6, -1));
+        due("likely" + of, forbidden ? 1000000 : -1, x.likely(2, 6, 0));
+        due("game" + of, forbidden ? 0 : 1, x.game(2, 1, 7, 6, 0));
+        due("safe" + of, 1, x.safe(2, 0));
+        due("spoken" + of, forbidden ? 6 : 7, x.spoken(2, 7));
+        due("carried" + of, forbidden ? 6 : 7, x.carried(7, 2, 1));
+        due("near" + of, forbidden ? 6 : 7, x.near(2, 7, 2));
+        due("joint" + of, forbidden ? 2 : 1, x.joint(2, 0, 7, 1));
+        due("joint, the other way" + of, forbidden ? 2 : 1, x.joint(0, 2, 7, 1));
+        due("worst" + of, forbidden ? 2 : 1, x.worst(2, 2, 1));
+        due("said" + of, 1, x.say(2, 7));
+        due("breaches" + of, forbidden ? 1 : 0, x.breach(-1));
+        due("fines" + of, forbidden ? 7 : 0, x.fines(2));
+        due("owes" + of, forbidden ? 2 : -1, x.owes());
+    }
+
+    static void promise25TodayIsTheDayOfACustom() {
+        sevenOnDay50(0, false);
+        sevenOnDay50(49, false);
+        sevenOnDay50(50, true);
+        sevenOnDay50(51, false);
+        sevenOnDay50(99, false);
+    }
+
     static void promise25TodayRefusedChangesNothing() {
         refused(x -> {
             for (int day : new int[] {-1, -2, 100, 101, 256, LEAST, MOST}) {
@@ -388,6 +424,20 @@ final class DayBounds extends Bounds {
         due("by changes told now", 8, x.breach(4));
         x.change(0, 0, 0);
         due("the first two are none now", 3, x.breach(-1));
+    }
+
+    static void promise29BreachByTheDayOfACustom() {
+        TabooIsles x = withCustom("y:d=50&n=7?1");
+        for (int day : new int[] {49, 50, 51}) {
+            x.today(day);
+            x.say(2, 7);
+        }
+        for (int day : new int[] {0, 50, 99}) {
+            x.today(day);
+            due("one", 1, x.breach(-1));
+            due("that of day 50", 1, x.breach(0));
+            due("its fine", 7, x.fines(2));
+        }
     }
 
     static void promise29BreachRefusedChangesNothing() {

@@ -272,6 +272,19 @@ final class MonthBounds extends Bounds {
         due("the only one", 1000000, x.likely(2, 6, 0));
     }
 
+    static void promise20LikelyOfAForbiddenNumber() {
+        TabooIsles x = Check.customs(Check.isles("6,7,0;ab1"), 2, "y:n>6&n<10?1");
+        due("6 of c", 333333, x.likely(2, 6, 0));
+        due("7 of c", -1, x.likely(2, 7, 0));
+        due("8 of c", -1, x.likely(2, 8, 0));
+        due("9 of c", -1, x.likely(2, 9, 0));
+        due("6 of b", 1000000, x.likely(1, 6, 0));
+        due("6 of a", -1, x.likely(0, 6, 0));
+        due("5 of a", 1000000, x.likely(0, 5, 0));
+        due("6 of c is not forbidden", 3, x.bit(2, 6, -1));
+        due("7 of c is", -1, x.bit(2, 7, -1));
+    }
+
     static void promise20LikelyWhereAllWeightsAre0() {
         TabooIsles x = withCustom("y:n>6&n<10?1");
         x.weight(7, 0);

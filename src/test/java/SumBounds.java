@@ -137,6 +137,20 @@ final class SumBounds extends Bounds {
         due("by 0", 1, all.pay(2, 9, 0, -1));
     }
 
+    static void promise11PayRowsAddUpBehindGreaterSums() {
+        TabooIsles x = Check.isles("5,0;ab1");
+        for (int rules = 0; rules <= 1; rules++) {
+            for (int sum = 30; sum >= 1; sum--) {
+                int parts = x.pay(0, sum, rules, -1);
+                int all = 0;
+                for (int i = 0; i < parts; i++) {
+                    all += x.pay(0, sum, rules, i);
+                }
+                due("parts of " + sum + " together, by " + rules, sum, all);
+            }
+        }
+    }
+
     static void promise11PayTheGreaterPartFirst() {
         TabooIsles x = Check.isles("3,0;ab1");
         int[] row = {9, 9, 2};

@@ -455,6 +455,31 @@ final class TextBounds extends Bounds {
         goesOn(1, "y:(((((!n=n&", UNITS);
     }
 
+    static void promise04SixWithinOneAnotherBehindOtherSigns() {
+        for (String sign : new String[] {"+", "-", "*", "/"}) {
+            goesOn(1, "y:[[[[[[n" + sign, DIGITS + "ntslid");
+            goesOn(1, "y:[[[[[[n*n+n" + sign, DIGITS + "ntslid");
+            goesOn(1, "y:[[[[[n" + sign, ATOMS);
+            sound(1, "y:n" + sign + "[[[[[[n]]]]]]");
+            sound(1, "y:n*n+n" + sign + "[[[[[[n]]]]]]=n?1");
+        }
+        for (String sign : new String[] {"&", "|"}) {
+            goesOn(1, "y:((((((n=n" + sign, DIGITS + "ntslid");
+            goesOn(1, "y:((((((n=n&n=n|n=n" + sign, DIGITS + "ntslid");
+            goesOn(1, "y:((((((n=n|n=n&n=n" + sign, DIGITS + "ntslid");
+            goesOn(1, "y:(((((n=n" + sign, UNITS);
+            sound(1, "y:n=n" + sign + "!!!!!!n=n?1");
+            sound(1, "y:n=n|n=n" + sign + "((((((n=n))))))?1");
+            sound(1, "y:n=n&n=n" + sign + "n=[[[[[[n]]]]]]?1");
+        }
+        for (String sign : new String[] {"=", "<", ">"}) {
+            goesOn(1, "y:((((((n" + sign, DIGITS + "ntslid");
+            goesOn(1, "y:!!!!!!n" + sign, DIGITS + "ntslid");
+            goesOn(1, "y:!!!!!n" + sign, ATOMS);
+            sound(1, "y:n" + sign + "[[[[[[n]]]]]]?1");
+        }
+    }
+
     static void promise04CustomsThatEndTooEarly() {
         beginnings(1, "y:!(n=12|[s-3]*2<t)?l+12", 21, 23, 24);
         beginnings(1, "y:n;y:1=d?i/[2]", 3, 7, 11, 15);

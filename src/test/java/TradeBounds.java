@@ -218,6 +218,14 @@ final class TradeBounds extends Bounds {
         due("on the other", 1, x.deal(0, 0, 1, 99));
     }
 
+    static void promise23DealByACustomOfTheDay() {
+        TabooIsles x = Check.customs(market(NO_TABOOS, 10, 10), 1, "y:d=50&n=20?1");
+        for (int day : new int[] {0, 49, 50, 51, 99}) {
+            due("2 for 20 on day " + day, day == 50 ? 0 : 1, x.deal(0, 1, 2, day));
+            due("3 for 30 on day " + day, 1, x.deal(0, 1, 3, day));
+        }
+    }
+
     static void promise23DealOfSixtyPartsNotSixtyOne() {
         int[] hands = {1, 1, 1, 2, 2, 3, 3, 4};
         int[] many = {1, 1, 6, 2, 2, 2, 2, 4};
@@ -431,6 +439,85 @@ final class TradeBounds extends Bounds {
         route(x, 20, 1, -1, 0, 1, 1, 1, 2);
     }
 
+    static void promise24GainOfWhatStaysOverTwoQuays() {
+        // 20 can't be said on b and c; on d 30 can from day 9 on, that of three legs
+        TabooIsles x = market("0,20,20,30;ab2,bc3,cd4", 99, 99);
+        x.price(0, 2, 99);
+        x.price(0, 3, 99);
+        x.good();
+        x.price(1, 1, 20);
+        x.price(1, 2, 20);
+        x.price(1, 3, 30);
+        due("nor on d yet", 0, x.gain(0, 10, 1, 3, -1));
+        x.change(3, 9, 0);
+        due("sold on d", 20, x.gain(0, 10, 1, 3, -1));
+        route(x, 10, 1, 1, 1, 1, -1, 0, 2, -1, 0, 3);
+        x.change(3, 9, 30);
+        x.change(3, 10, 0);
+        due("not on day 9", 0, x.gain(0, 10, 1, 3, -1));
+        x.today(1);
+        due("on day 10", 20, x.gain(0, 10, 1, 3, -1));
+    }
+
+    static void promise24GainOfASecondGoodThatCantBeSold() {
+        TabooIsles x = market("0,30,0;ab1,bc1", 10, 10);
+        x.good();
+        x.price(1, 1, 30);
+        x.price(1, 2, 60);
+        due("over b, where 30 is the taboo", 50, x.gain(0, 10, 1, 2, -1));
+        route(x, 10, 1, 1, 1, 1, -1, 0, 2);
+    }
+
+    static void promise24GainOfWhatMayNotBeBought() {
+        TabooIsles x = market("10,0;ab1", 10, 20);
+        due("not one for 10", 0, x.gain(0, 10, 1, 1, -1));
+        route(x, 10, 1, -1, 0, 1);
+        due("two for 20", 20, x.gain(0, 20, 2, 1, -1));
+        route(x, 20, 2, 0, 2, 1);
+        x = market("2,0;ab1", 10, 20);
+        due("one for 10", 10, x.gain(0, 20, 2, 1, -1));
+        due("three for 30", 30, x.gain(0, 30, 3, 1, -1));
+        x = market("1,0;ab1", 10, 20);
+        due("not one", 0, x.gain(0, 10, 6, 1, -1));
+        due("two", 20, x.gain(0, 20, 6, 1, -1));
+        x = Check.customs(market(NO_TABOOS, 10, 20), 0, "y:1");
+        due("nothing", 0, x.gain(0, 999, 6, 1, -1));
+        due("to a nothing can be sold", 0, x.gain(1, 999, 6, 1, -1));
+    }
+
+    static void promise24GainFromEachIsle() {
+        int[] want = {50, 10, 10, 10, 10, 0};
+        int[] to = {5, 2, 3, 4, 5, 0};
+        for (int isle = 0; isle < 6; isle++) {
+            TabooIsles x = market("0,0,0,0,0,0;ab1,bc1,cd1,de1,ef1,fa1", 10, 20);
+            for (int dearer = 2; dearer < 6; dearer++) {
+                x.price(0, dearer, 10 * (dearer + 1));
+            }
+            due("from " + isle, want[isle], x.gain(isle, 60, 1, 1, -1));
+            due("the good from " + isle, isle == 5 ? -1 : 0, x.gain(isle, 60, 1, 1, 0));
+            due("to, from " + isle, to[isle], x.gain(isle, 60, 1, 1, 2));
+        }
+    }
+
+    static void promise24GainByACustomOfTheDay() {
+        TabooIsles x = Check.customs(market("0,0,0;ab9", 10, 20), 1, "y:d=50&n=20?1");
+        int[] today = {0, 40, 41, 42, 50};
+        int[] want = {10, 10, 0, 10, 10};
+        for (int k = 0; k < today.length; k++) {
+            x.today(today[k]);
+            due("from day " + today[k], want[k], x.gain(0, 10, 1, 1, -1));
+        }
+    }
+
+    static void promise24GainBesideADearGood() {
+        TabooIsles x = market(TWO, 1, 99);
+        x.good();
+        x.price(1, 0, 99);
+        x.price(1, 1, 99);
+        due("twice to b", 196, x.gain(0, 1, 1, 3, -1));
+        route(x, 1, 1, 0, 1, 1, -1, 0, 0, 0, 1, 1);
+    }
+
     static void promise24GainOfALittleAheadOfMuch() {
         TabooIsles x = market("0,0,0;ab1,bc1", 10, 11);
         x.good();
@@ -443,6 +530,26 @@ final class TradeBounds extends Bounds {
         due("98 to c, 98 back to b", 196, x.gain(0, 9, 1, 3, -1));
         due("and 1 ahead of them", 197, x.gain(0, 10, 1, 3, -1));
         route(x, 10, 1, 0, 1, 1, 1, 1, 2, 2, 1, 1);
+        due("two by two", 394, x.gain(0, 20, 2, 3, -1));
+        route(x, 20, 2, 0, 2, 1, 1, 2, 2, 2, 2, 1);
+    }
+
+    static void promise24GainOfAQuayReachedByTwoLegsAndByThree() {
+        // e on day 6 by b and c, and by d: by d one leg is left, to f
+        TabooIsles x = market("0,0,0,0,0,0;ab2,bc2,ce2,ad5,de1,ef9", 10, 10);
+        x.price(0, 5, 99);
+        due("sold on f", 89, x.gain(0, 10, 1, 3, -1));
+        route(x, 10, 1, -1, 0, 3, -1, 0, 4, 0, 1, 5);
+        due("not by two legs", 0, x.gain(0, 10, 1, 2, -1));
+    }
+
+    static void promise24GainOfAQuayReachedByManyWaysOnOneDay() {
+        // c on day 3 by b and by d, e on day 4 by b and by c
+        TabooIsles x = market("0,0,0,0,0;ab1,bc2,ad2,cd1,ce1,be3", 10, 10);
+        x.price(0, 4, 99);
+        due("sold on e by two legs", 89, x.gain(0, 10, 1, 2, -1));
+        route(x, 10, 1, -1, 0, 1, 0, 1, 4);
+        due("sold on e by three legs", 89, x.gain(0, 10, 1, 3, -1));
     }
 
     static void promise24GainOfRowsOfSixtyParts() {

@@ -3,8 +3,12 @@ final class WorthBounds extends Bounds {
     private WorthBounds() {
     }
 
+    /** None of these has an i or a d: it is the same on each DAY. */
     private static void worth(String custom, int number, boolean above0) {
-        due(custom + " of " + number, above0 ? 1 : 0, withCustom(custom).forbidden(2, number, 0));
+        TabooIsles x = withCustom(custom);
+        for (int day : new int[] {0, 1, 5, 99}) {
+            due(custom + " of " + number + " on day " + day, above0 ? 1 : 0, x.forbidden(2, number, day));
+        }
     }
 
     private static void holds(String condition) {
@@ -140,6 +144,12 @@ final class WorthBounds extends Bounds {
         holds("!1=2&2=2");
         fails("!1=1&2=2");
         holds("!1=1|2=2");
+        holds("1=1&!1=2");
+        fails("1=1&!1=1");
+        holds("1=2|!1=2");
+        fails("1=2|!1=1");
+        holds("1=1&(1=2|!(1=2))");
+        fails("1=2|(1=1&!(1=1))");
         fails("!(1=1|2=2)");
         fails("!!!1=1");
         holds("!!1=1");
