@@ -407,8 +407,8 @@ final class SumBounds extends Bounds {
     static void promise15SplitsOf1To30() {
         TabooIsles x = Check.isles(TWO);
         bounds("family", 1, 30, many -> x.splits(1, many) != -1);
-        int[] want = {1, 2, 3, 5, 7, 11, 15, 22, 30, 42, 56, 77, 101, 135, 176, 231, 297, 385, 490, 627, 792, 1002, 1255,
-            1575, 1958, 2436, 3010, 3718, 4565, 5604};
+        int[] want = {1, 2, 3, 5, 7, 11, 15, 22, 30, 42, 56, 77, 101, 135, 176, 231, 297, 385, 490, 627, 792, 1002,
+            1255, 1575, 1958, 2436, 3010, 3718, 4565, 5604};
         for (int many = 1; many <= 30; many++) {
             due("splits of " + many, want[many - 1], x.splits(0, many));
         }
@@ -479,6 +479,18 @@ final class SumBounds extends Bounds {
         x = hand(withCustom("y:n<14|n>15?1"), 20);
         due("1 to 196", 196, x.near(2, 1, 5));
         due("200", 200, x.near(2, 200, 5));
+    }
+
+    static void promise35NearOfSumsBehindSixtyParts() {
+        TabooIsles x = Check.isles(TWO);
+        for (int hand = 1; hand <= 3; hand++) {
+            hand(x, hand);
+            due("60 parts", 60 * hand, x.near(0, 60 * hand, 0));
+            due("one more", 60 * hand, x.near(0, 60 * hand + 1, 0));
+            due("200", 60 * hand, x.near(0, 200, 0));
+        }
+        hand(x, 4);
+        due("200 in 50 parts", 200, x.near(0, 200, 0));
     }
 
     static void promise35NearOfTwoTheLower() {
